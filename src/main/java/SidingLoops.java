@@ -1717,21 +1717,16 @@ public final class SidingLoops {
             place = NONE;
             for (int lines = 0; lines <= n; lines++) {
                 tokens.advance();
-                if (tokens.kind == Tokens.END || !readLine()) {
+                if (tokens.kind == Tokens.END) {
+                    break;
+                }
+                boolean good = tokens.isWord(STATION) ? readStation()
+                    : tokens.isWord(TRAIN) ? readTrain() : failHere();
+                if (!good) {
                     break;
                 }
             }
             return fault == 0;
-        }
-
-        private boolean readLine() {
-            if (tokens.isWord(STATION)) {
-                return readStation();
-            }
-            if (tokens.isWord(TRAIN)) {
-                return readTrain();
-            }
-            return failHere();
         }
 
         private boolean readStation() {
@@ -1876,7 +1871,9 @@ public final class SidingLoops {
 
         /** The token at hand can't stand where it does. */
         private boolean failHere() {
-            return fail(tokens.kind == Tokens.BAD ? NO_TOKEN : OUT_OF_PLACE);
+            fault = tokens.kind == Tokens.BAD ? NO_TOKEN : OUT_OF_PLACE;
+            place = tokens.place;
+            return false;
         }
 
         private boolean fail(int kind) {

@@ -37,8 +37,8 @@ public final class AgainstModel {
   private void run(boolean broken) {
     SidingLoops x = new SidingLoops();
     Model m = new Model();
-    int calls = 60 + pick(100);
-    for (int texts = 1 + pick(2); texts > 0; texts--) {
+    int texts = 1 + pick(4), calls = (120 + pick(100)) / texts;
+    for (; texts > 0; texts--) {
       boolean dense = coin();
       load(x, m, broken ? brokenText() : dense ? denseText() : text(), broken);
       boolean care = pick(3) != 0 && !dense;

@@ -56,6 +56,11 @@ public final class StatePromises {
     e.answers("many(8)", e.x.many(8), 0);
     e.x.shut(3, 0, true);
     e.answers("many(8)", e.x.many(8), 1);
+    Check g = new Check(Check.RING + "train z 5 a c 199;");
+    g.x.go(4, false);
+    g.answers("many(8)", g.x.many(8), 0);
+    g.x.shut(0, 0, true);
+    g.answers("many(8)", g.x.many(8), 1);
     // so does one that is held or kept by a link; nobody in, nobody stuck
     Check f = new Check(Check.MEET);
     f.answers("many(8)", f.x.many(8), 0);
@@ -313,6 +318,12 @@ public final class StatePromises {
     e.answers("weak(1): either will do", e.x.weak(1), 0);
     e.x.shut(1, 1, true);
     e.answers("weak(1): not the shut one, not the short one", e.x.weak(1), 4);
+    // y has to pass x on the short track, z needs the long one that x leaves
+    Check f = new Check("station a 0 9;station b 1 5 9;station c 1 9;station d 1 9;train x 9 b d 0;train y 5 c a 0;train z 9 d a 0;");
+    f.x.go(1, true);
+    f.answers("many(4)", f.x.many(4), 0);
+    f.answers("weak(1)", f.x.weak(1), 3);
+    f.answers("weak(2)", f.x.weak(2), 1);
   }
 
   private static void links() {

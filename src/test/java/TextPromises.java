@@ -132,6 +132,18 @@ public final class TextPromises {
     // blanks where they are not needed, and none where they are not
     c.reads("\n\n station\n\na 0   1\n2 ;   station abcdefgh 1 1;train c1a abcdefgh 0slow1weight2;  \n", 1);
     c.answers("train(0, 5)", c.x.train(0, 5), 2);
+    // nothing stays of any earlier text
+    for (int i = 0; i < 3; i++) c.reads("station a 0 9 99 9;station b 1 9 99 9;station c 1 99;train t 9 a b 0 slow 3 weight 9;", 1);
+    for (int i = 0; i < 3; i++) {
+      c.reads("station a 0 9;station b 1 8;train t 9 a b 0;", 1);
+      c.answers("train(0, 4)", c.x.train(0, 4), 0);
+      c.answers("train(0, 5)", c.x.train(0, 5), 1);
+      c.answers("train(0, 10)", c.x.train(0, 10), 1);
+      c.answers("fits(0)", c.x.fits(0), 1);
+      c.answers("station(0, 2)", c.x.station(0, 2), 1);
+      c.answers("shut(0, 0, true)", c.x.shut(0, 0, true), 1);
+      c.answers("why(0)", c.x.why(0), 3);
+    }
     // stations may be told behind trains
     c.reads("station a 30 5;station b 1 5;train t 1 a b 0;station c 1 5 6 7;", 1);
     c.answers("many(0)", c.x.many(0), 3);
