@@ -2,19 +2,15 @@ import java.util.NoSuchElementException;
 
 /** Runs of calls made by a fixed row of numbers: the class and the model have to answer alike. */
 public final class AgainstModel {
-  private long seed;
+  private final Draw draw;
   private int wrong;
   private String history = "";
 
-  private AgainstModel(long seed) { this.seed = seed * 7919 + 12345; }
+  private AgainstModel(int seed) { draw = new Draw(seed); }
 
-  /** 0 to n - 1; the same row for the same seed. */
-  private int pick(int n) {
-    seed = seed * 6364136223846793005L + 1442695040888963407L;
-    return (int) ((seed >>> 33) % n);
-  }
+  private int pick(int n) { return draw.pick(n); }
 
-  private boolean coin() { return pick(2) == 0; }
+  private boolean coin() { return draw.coin(); }
 
   private void due(String call, int got, int want, SidingLoops x, Model m) {
     history += call + " = " + want + (m.status != 0 ? " s" + m.status : "") + "\n";
@@ -26,7 +22,8 @@ public final class AgainstModel {
 
   public static void main(String[] args) {
     int runs = args.length > 0 ? Integer.parseInt(args[0]) : 1500;
-    for (int run = 0; run < runs; run++) {
+    int first = args.length > 1 ? Integer.parseInt(args[1]) : 0;
+    for (int run = first; run < first + runs; run++) {
       AgainstModel one = new AgainstModel(run);
       one.run(run % 10 == 9);
       if (one.wrong > 0) { System.out.println("run " + run); System.exit(1); }
@@ -40,53 +37,12 @@ public final class AgainstModel {
     int texts = 1 + pick(4), calls = (120 + pick(100)) / texts;
     for (; texts > 0; texts--) {
       boolean dense = coin();
-      load(x, m, broken ? brokenText() : dense ? denseText() : text(), broken);
+      load(x, m, broken ? brokenText() : dense ? draw.denseText() : draw.text(), broken);
       boolean care = pick(3) != 0 && !dense;
       for (int i = 0; i < calls && wrong == 0; i++) {
         if (pick(3) == 0) act(x, m, care); else if (pick(12) == 0) dear(x, m); else ask(x, m);
       }
     }
-  }
-
-  private String text() {
-    StringBuilder b = new StringBuilder();
-    int stations = 2 + pick(6), trains = 1 + pick(5);
-    int longest = 10 + pick(20);
-    for (int s = 0; s < stations; s++) {
-      b.append("station s").append((char) ('a' + s)).append(' ').append(s == 0 ? pick(31) : pick(8) == 0 ? 1 + pick(30) : 1 + pick(6));
-      for (int k = 1 + pick(3); k > 0; k--) b.append(' ').append(Math.min(99, longest - 5 + pick(20)));
-      b.append(";");
-      if (coin()) b.append('\n');
-    }
-    for (int t = 0; t < trains; t++) {
-      int from = pick(3) == 0 ? pick(stations) : coin() ? 0 : stations - 1;
-      int to = (from + 1 + pick(stations - 1)) % stations;
-      if (coin() && from != stations - 1 - from) to = stations - 1 - from;
-      b.append("train t").append((char) ('a' + t)).append(' ').append(5 + pick(longest)).append(" s").append((char) ('a' + from));
-      b.append(" s").append((char) ('a' + to)).append(' ').append(pick(4) == 0 ? pick(60) : pick(10));
-      if (coin()) b.append(" slow ").append(pick(4));
-      if (coin()) b.append(" weight ").append(1 + pick(9));
-      b.append(coin() ? " ; " : ";");
-    }
-    return b.toString();
-  }
-
-  /** Few tracks, and trains from everywhere at once: they are soon in each other's way. */
-  private String denseText() {
-    StringBuilder b = new StringBuilder();
-    int stations = 4 + pick(4);
-    for (int s = 0; s < stations; s++) {
-      b.append("station s").append((char) ('a' + s)).append(' ').append(1 + pick(3));
-      for (int k = 1 + pick(4) / 2; k > 0; k--) b.append(' ').append(8 + pick(4));
-      b.append(";");
-    }
-    for (int t = 0; t < 5; t++) {
-      int from = pick(stations), to = pick(stations - 1);
-      if (from <= stations / 2 && from > 0 && to < from) from--;
-      b.append("train t").append((char) ('a' + t)).append(' ').append(6 + pick(4)).append(" s").append((char) ('a' + from));
-      b.append(" s").append((char) ('a' + (to >= from ? to + 1 : to))).append(' ').append(pick(4)).append(coin() ? ";" : " weight 3;");
-    }
-    return b.toString();
   }
 
   private static final String[] BITS = {"station", "train", "slow", "weight", "a", "b", "c", "dd", "ninelette", "eightlet", "0", "1", "5", "30", "31", "99", "100", "199", "200",
